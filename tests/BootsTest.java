@@ -130,6 +130,11 @@ final class BootsTest {
         Check.same("13: each neighbour got 2", Check.waters(corner), "7 3 1 2 0 0");
         Check.same("53: on a wet edge", corner.splash(1), 0);
         Check.yes("46: isConsistent", corner.isConsistent());
+        PuddleCity first = Check.city("row 9 0 9;row 9 9 9;boots a 1 9;");
+        first.burst(1, 10, 1);
+        first.passMinutes(1);
+        Check.same("53: a fifth of 10 to three", first.splash(0), 6);
+        Check.same("13: cell 0 got its fifth, too", Check.waters(first), "2 4 2 0 2 0");
     }
 
     private static void splashWetsNobody() {

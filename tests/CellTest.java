@@ -50,7 +50,10 @@ final class CellTest {
     }
 
     private static void leavesAndGutters() {
-        PuddleCity city = Check.city("row 1 1;row 1 1;gutter 1 3;gutter 2 9;");
+        PuddleCity city = Check.city("row 1 1;row 1 1;gutter 1 3;gutter 2 9;gutter 3 1;");
+        Check.no("18: capacity 1", city.isPlugged(3));
+        city.dropLeaves(3, 1);
+        Check.yes("18: capacity 1 and a leaf", city.isPlugged(3));
         Check.same("15: leavesOn", city.leavesOn(1), 0);
         Check.same("16: gutterCapacity", city.gutterCapacity(1), 3);
         Check.same("16: no gutter", city.gutterCapacity(0), 0);

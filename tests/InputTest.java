@@ -4,6 +4,7 @@ final class InputTest {
         orderOfBytes();
         limit();
         truncate();
+        whatIsCutOffDoesNotCount();
         Check.finish();
     }
 
@@ -73,5 +74,34 @@ final class InputTest {
         Check.same("2: both parts are a setup", city.loadSetup(), 4);
         Check.same("2: height of the first part", city.heightOf(1), 2);
         Check.same("2: height of the second part", city.heightOf(3), 6);
+    }
+
+    /** The script without its end, which stays behind the end of the buffer: it is an error there. */
+    private static void cutOff(String script, int length) {
+        PuddleCity city = new PuddleCity();
+        Check.feed(city, script);
+        city.truncateInput(length);
+        Check.same("3: cut off from " + script, city.runScript(), PuddleCity.NONE);
+        Check.same("6: code", city.errorCode(), PuddleCity.SYNTAX);
+        Check.same("7: offset", city.errorOffset(), length);
+    }
+
+    private static void whatIsCutOffDoesNotCount() {
+        cutOff("rain 10;", 6);
+        cutOff("rain 1;", 6);
+        cutOff("rain 1;", 5);
+        cutOff("rain 1;", 4);
+        cutOff("walk anna 1;", 8);
+        cutOff("walk ann 1;", 9);
+        cutOff("pass 1 ;", 7);
+        PuddleCity city = new PuddleCity();
+        Check.feed(city, "passage 1;");
+        city.truncateInput(4);
+        city.runScript();
+        Check.same("7: the word ends with the buffer", city.errorOffset(), 4);
+        Check.feed(city, "pass 1;rain 3;");
+        city.truncateInput(7);
+        Check.same("5: one statement is left", city.runScript(), 1);
+        Check.same("11: the other one was cut off", city.rain(), 1);
     }
 }

@@ -78,6 +78,8 @@ final class PuddleTest {
         Check.same("25: corners do not join", puddles(corners), ".0.1....2");
         Check.same("27: water of 1", corners.puddleWater(1), 5);
         Check.same("27: water of 2", corners.puddleWater(2), 6);
+        Check.same("26: asked first of all", pits("row 9 0 9;row 0 9 9;", 0, 4, 0, 5).puddleSize(1), 1);
+        Check.same("27: asked first of all", pits("row 9 0 9;row 0 9 9;", 0, 4, 0, 5).puddleWater(1), 5);
         PuddleCity edge = pits("row 9 9 0;row 0 9 9;", 0, 0, 1, 1, 0, 0);
         Check.same("25: the end of a row is not beside the next one", puddles(edge), "..01..");
         // cells 0 and 3 are one puddle although 1 and 2 lie between them in the order of the cells

@@ -153,6 +153,9 @@ final class ScriptTest {
         bad(SYNTAX, "@boots ann 1 1;");
         bad(SYNTAX, "@5;");
         bad(SYNTAX, "@passes 5;");
+        bad(SYNTAX, "@mass 5;");
+        bad(SYNTAX, "@talk ann 1;");
+        bad(SYNTAX, "@walt ann 1;");
         bad(SYNTAX, "pass 1;@pas 5;");
         bad(SYNTAX, "pass5@x;");
         bad(SYNTAX, "pass@");
@@ -208,6 +211,8 @@ final class ScriptTest {
         bad(NAME, "walk @eve 0;");
         bad(NAME, "splash @eve;");
         bad(NAME, "walk @an 0;");
+        bad(NAME, "walk @cob 0;");
+        bad(NAME, "walk @bab 0;");
         bad(NAME, "walk @anna 0;");
         bad(NAME, "walk @annann 0;");
         bad(NAME, "walk @walk 0;");

@@ -16,6 +16,7 @@ final class SetupTest {
         badNames();
         tooMany();
         badSetupLeavesAll();
+        nothingOfEarlierSetups();
         Check.finish();
     }
 
@@ -88,6 +89,8 @@ final class SetupTest {
         PuddleCity city = Check.city("row 1 2 3;row 4 5 6;gutter 1 3;rain 4;boots ann 5 1;boots bo 4 1;");
         city.burst(0, 20, 60);
         city.dropLeaves(0, 9);
+        city.dropLeaves(3, 5);
+        Check.same("51: swept", city.sweep(3), 5);
         city.passMinutes(20);
         city.splash(0);
         city.writeRow(1);
@@ -155,6 +158,11 @@ final class SetupTest {
         bad(SYNTAX, "@1 1;");
         bad(SYNTAX, "@rows 1 1;");
         bad(SYNTAX, "@ro 1 1;");
+        bad(SYNTAX, "@bow 1 1;");
+        bad(SYNTAX, "@rot 1 1;");
+        bad(SYNTAX, TWO + "@pain 1;");
+        bad(SYNTAX, TWO + "@butter 1 1;");
+        bad(SYNTAX, TWO + "@roots a 1 1;");
         bad(SYNTAX, TWO + "@shut 0;");
         bad(SYNTAX, TWO + "@burst 0 1 1;");
         bad(RANGE, "gutter @0 2;");
@@ -269,5 +277,21 @@ final class SetupTest {
         Check.same("5: an empty script", city.runScript(), 0);
         Check.same("6: no error any more", city.errorCode(), PuddleCity.NO_ERROR);
         Check.same("7: no offset any more", city.errorOffset(), PuddleCity.NONE);
+    }
+
+    private static void nothingOfEarlierSetups() {
+        PuddleCity city = Check.city(TWO + "gutter 0 9;rain 9;boots a 0 1;");
+        Check.feed(city, "row 1 1;row 1 1;row 1 1;gutter 1 8;rain 8;boots b 1 2;");
+        city.loadSetup();
+        Check.feed(city, "row 1 1 1;row 1 1 1;gutter 2 7;rain 7;boots c 2 3;boots d 3 3;oh");
+        city.loadSetup();
+        Check.feed(city, TWO);
+        Check.same("4: cells", city.loadSetup(), 4);
+        Check.same("4: nothing is left of the setups before", Check.picture(city),
+                Check.picture(Check.city(TWO)));
+        Check.feed(city, TWO);
+        Check.same("4: cells", city.loadSetup(), 4);
+        Check.same("4: nor behind one more", Check.picture(city), Check.picture(Check.city(TWO)));
+        Check.same("4: no boots", city.bootsCount(), 0);
     }
 }
