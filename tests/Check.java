@@ -5,8 +5,14 @@ final class Check {
     }
 
     private static int wrong = 0;
+    private static String sentence = "";
 
     private Check() {
+    }
+
+    /** What follows tests this sentence of the document: the messages begin with it. */
+    static void sentence(String where, String words) {
+        sentence = "[" + where + ": " + words + "] ";
     }
 
     static void same(String what, long got, long want) {
@@ -70,7 +76,7 @@ final class Check {
 
     static void fail(String message) {
         wrong++;
-        System.out.println(message);
+        System.out.println(sentence + message);
     }
 
     static void finish() {

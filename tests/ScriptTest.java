@@ -17,40 +17,6 @@ final class ScriptTest {
         Check.finish();
     }
 
-    private static void good(String script, int executed) {
-        PuddleCity city = new PuddleCity();
-        Check.feed(city, script);
-        Check.same("5: executed of " + script, city.runScript(), executed);
-        Check.same("6: code of " + script, city.errorCode(), PuddleCity.NO_ERROR);
-        Check.same("7: offset of " + script, city.errorOffset(), PuddleCity.NONE);
-        Check.no("5: the buffer is emptied after " + script, city.truncateInput(1));
-        Check.same("5: one change by " + script, city.undo(), 0);
-        Check.same("5: undone " + script, Check.picture(city), Check.picture(new PuddleCity()));
-    }
-
-    /** The mark @ shows where the error is, and is no part of the text. */
-    private static void bad(int code, String marked) {
-        int offset = marked.indexOf('@');
-        String script = marked.substring(0, offset) + marked.substring(offset + 1);
-        PuddleCity city = new PuddleCity();
-        String before = Check.picture(city);
-        Check.feed(city, script);
-        Check.same("5: runScript of " + marked, city.runScript(), PuddleCity.NONE);
-        Check.same("6: code of " + marked, city.errorCode(), code);
-        Check.same("7: offset of " + marked, city.errorOffset(), offset);
-        Check.same("5: the city after " + marked, Check.picture(city), before);
-        Check.no("5: the buffer is emptied after " + marked, city.truncateInput(1));
-        Check.noElement("5: no change by " + marked, city::undo);
-    }
-
-    private static String repeated(String part, int times) {
-        StringBuilder all = new StringBuilder();
-        for (int i = 0; i < times; i++) {
-            all.append(part);
-        }
-        return all.toString();
-    }
-
     private static void eachStatement() {
         PuddleCity city = new PuddleCity();
         Check.same("5: rain", Check.script(city, "rain 7;"), 1);
@@ -96,31 +62,31 @@ final class ScriptTest {
     }
 
     private static void edges() {
-        good("", 0);
-        good("  \n", 0);
-        good("rain 0;rain 9;rain 09;", 3);
-        good("burst 0 1 1;burst 1 20 60;", 2);
-        good("leaves 0 1;leaves 8 9;sweep 0;sweep 8;", 4);
-        good("pass 1;pass 60;", 2);
-        good("walk bob 0;walk bob 2;walk bob 1;walk bob 3;", 4);
-        good("\nwalk\nbob\n0\n;\n", 1);
-        good("burst0 1 1;shut0;walk bob0;pass1;splash ann;", 5);
-        good(repeated("pass 1;", 30), 30);
-        good(repeated("pass 1;", 30) + " \n ", 30);
+        Texts.goodScript("", 0);
+        Texts.goodScript("  \n", 0);
+        Texts.goodScript("rain 0;rain 9;rain 09;", 3);
+        Texts.goodScript("burst 0 1 1;burst 1 20 60;", 2);
+        Texts.goodScript("leaves 0 1;leaves 8 9;sweep 0;sweep 8;", 4);
+        Texts.goodScript("pass 1;pass 60;", 2);
+        Texts.goodScript("walk bob 0;walk bob 2;walk bob 1;walk bob 3;", 4);
+        Texts.goodScript("\nwalk\nbob\n0\n;\n", 1);
+        Texts.goodScript("burst0 1 1;shut0;walk bob0;pass1;splash ann;", 5);
+        Texts.goodScript(Texts.repeated("pass 1;", 30), 30);
+        Texts.goodScript(Texts.repeated("pass 1;", 30) + " \n ", 30);
     }
 
     private static void endsBeforeWhatWouldThrow() {
-        good("shut 0;rain 3;", 0);
-        good("rain 3;shut 0;rain 4;", 1);
-        good("burst 0 1 1;burst 0 1 1;pass 1;", 1);
-        good("burst 0 1 1;pass 1;burst 0 1 1;shut 0;shut 0;pass 1;", 4);
-        good("walk ann 0;pass 1;", 0);
-        good("walk ann 1;walk ann 0;pass 1;", 1);
-        good("splash ann;pass 1;", 0);
-        good("pass 1;splash bob;walk bob 0;splash bob;pass 1;", 3);
-        good(repeated("pass 60;", 17), 16);
+        Texts.goodScript("shut 0;rain 3;", 0);
+        Texts.goodScript("rain 3;shut 0;rain 4;", 1);
+        Texts.goodScript("burst 0 1 1;burst 0 1 1;pass 1;", 1);
+        Texts.goodScript("burst 0 1 1;pass 1;burst 0 1 1;shut 0;shut 0;pass 1;", 4);
+        Texts.goodScript("walk ann 0;pass 1;", 0);
+        Texts.goodScript("walk ann 1;walk ann 0;pass 1;", 1);
+        Texts.goodScript("splash ann;pass 1;", 0);
+        Texts.goodScript("pass 1;splash bob;walk bob 0;splash bob;pass 1;", 3);
+        Texts.goodScript(Texts.repeated("pass 60;", 17), 16);
         PuddleCity city = new PuddleCity();
-        Check.same("5: up to 960", Check.script(city, repeated("pass 60;", 17)), 16);
+        Check.same("5: up to 960", Check.script(city, Texts.repeated("pass 60;", 17)), 16);
         Check.same("5: the minutes before remain", city.minute(), 960);
         Check.same("5: past 999", Check.script(city, "rain 0;pass 40;rain 5;"), 1);
         Check.same("5: the rain before remains", city.rain(), 0);
@@ -147,81 +113,81 @@ final class ScriptTest {
     }
 
     private static void badStatements() {
-        bad(SYNTAX, "@;");
-        bad(SYNTAX, "@row 1 1;");
-        bad(SYNTAX, "@gutter 1 1;");
-        bad(SYNTAX, "@boots ann 1 1;");
-        bad(SYNTAX, "@5;");
-        bad(SYNTAX, "@passes 5;");
-        bad(SYNTAX, "@mass 5;");
-        bad(SYNTAX, "@talk ann 1;");
-        bad(SYNTAX, "@walt ann 1;");
-        bad(SYNTAX, "pass 1;@pas 5;");
-        bad(SYNTAX, "pass5@x;");
-        bad(SYNTAX, "pass@");
-        bad(SYNTAX, "pass @;");
-        bad(SYNTAX, "pass 1@");
-        bad(SYNTAX, "pass 1  @");
-        bad(SYNTAX, "pass 1 @pass 1;");
-        bad(SYNTAX, "pass 1 @1;");
-        bad(SYNTAX, "pass @ann;");
-        bad(SYNTAX, "pass @100;");
-        bad(SYNTAX, "pass @-1;");
-        bad(RANGE, "pass @0;");
-        bad(RANGE, "pass @61;");
-        bad(RANGE, "rain 1;pass @61;");
-        bad(RANGE, "rain @10;");
-        bad(SYNTAX, "rain@");
-        bad(RANGE, "burst @9 1 1;");
-        bad(RANGE, "burst 0 @0 1;");
-        bad(RANGE, "burst 0 @21 1;");
-        bad(RANGE, "burst 0 1 @0;");
-        bad(RANGE, "burst 0 1 @61;");
-        bad(SYNTAX, "burst 0 1@;");
-        bad(SYNTAX, "burst 0@;");
-        bad(SYNTAX, "burst @;");
-        bad(SYNTAX, "burst 0 1 1 @1;");
-        bad(RANGE, "shut @9;");
-        bad(SYNTAX, "shut @;");
-        bad(SYNTAX, "shut 0 @0;");
-        bad(RANGE, "leaves @9 1;");
-        bad(RANGE, "leaves 0 @0;");
-        bad(RANGE, "leaves 0 @10;");
-        bad(SYNTAX, "leaves 0@;");
-        bad(RANGE, "sweep @9;");
-        bad(SYNTAX, "sweep @ann;");
-        bad(RANGE, "walk ann @4;");
-        bad(SYNTAX, "walk ann@;");
-        bad(SYNTAX, "walk ann @north;");
-        bad(SYNTAX, "walk @0 0;");
-        bad(SYNTAX, "splash @0;");
-        bad(SYNTAX, "splash @;");
-        bad(SYNTAX, "splash ann @1;");
-        bad(SYNTAX, "splash@");
-        bad(SYNTAX, "splash ann@");
-        bad(SYNTAX, "@walkann 0;");
-        bad(SYNTAX, "walk ann 0@,");
-        bad(SYNTAX, "rain 1;pass 1;@\u00ff");
+        Texts.badScript(SYNTAX, "@;");
+        Texts.badScript(SYNTAX, "@row 1 1;");
+        Texts.badScript(SYNTAX, "@gutter 1 1;");
+        Texts.badScript(SYNTAX, "@boots ann 1 1;");
+        Texts.badScript(SYNTAX, "@5;");
+        Texts.badScript(SYNTAX, "@passes 5;");
+        Texts.badScript(SYNTAX, "@mass 5;");
+        Texts.badScript(SYNTAX, "@talk ann 1;");
+        Texts.badScript(SYNTAX, "@walt ann 1;");
+        Texts.badScript(SYNTAX, "pass 1;@pas 5;");
+        Texts.badScript(SYNTAX, "pass5@x;");
+        Texts.badScript(SYNTAX, "pass@");
+        Texts.badScript(SYNTAX, "pass @;");
+        Texts.badScript(SYNTAX, "pass 1@");
+        Texts.badScript(SYNTAX, "pass 1  @");
+        Texts.badScript(SYNTAX, "pass 1 @pass 1;");
+        Texts.badScript(SYNTAX, "pass 1 @1;");
+        Texts.badScript(SYNTAX, "pass @ann;");
+        Texts.badScript(SYNTAX, "pass @100;");
+        Texts.badScript(SYNTAX, "pass @-1;");
+        Texts.badScript(RANGE, "pass @0;");
+        Texts.badScript(RANGE, "pass @61;");
+        Texts.badScript(RANGE, "rain 1;pass @61;");
+        Texts.badScript(RANGE, "rain @10;");
+        Texts.badScript(SYNTAX, "rain@");
+        Texts.badScript(RANGE, "burst @9 1 1;");
+        Texts.badScript(RANGE, "burst 0 @0 1;");
+        Texts.badScript(RANGE, "burst 0 @21 1;");
+        Texts.badScript(RANGE, "burst 0 1 @0;");
+        Texts.badScript(RANGE, "burst 0 1 @61;");
+        Texts.badScript(SYNTAX, "burst 0 1@;");
+        Texts.badScript(SYNTAX, "burst 0@;");
+        Texts.badScript(SYNTAX, "burst @;");
+        Texts.badScript(SYNTAX, "burst 0 1 1 @1;");
+        Texts.badScript(RANGE, "shut @9;");
+        Texts.badScript(SYNTAX, "shut @;");
+        Texts.badScript(SYNTAX, "shut 0 @0;");
+        Texts.badScript(RANGE, "leaves @9 1;");
+        Texts.badScript(RANGE, "leaves 0 @0;");
+        Texts.badScript(RANGE, "leaves 0 @10;");
+        Texts.badScript(SYNTAX, "leaves 0@;");
+        Texts.badScript(RANGE, "sweep @9;");
+        Texts.badScript(SYNTAX, "sweep @ann;");
+        Texts.badScript(RANGE, "walk ann @4;");
+        Texts.badScript(SYNTAX, "walk ann@;");
+        Texts.badScript(SYNTAX, "walk ann @north;");
+        Texts.badScript(SYNTAX, "walk @0 0;");
+        Texts.badScript(SYNTAX, "splash @0;");
+        Texts.badScript(SYNTAX, "splash @;");
+        Texts.badScript(SYNTAX, "splash ann @1;");
+        Texts.badScript(SYNTAX, "splash@");
+        Texts.badScript(SYNTAX, "splash ann@");
+        Texts.badScript(SYNTAX, "@walkann 0;");
+        Texts.badScript(SYNTAX, "walk ann 0@,");
+        Texts.badScript(SYNTAX, "rain 1;pass 1;@\u00ff");
         PuddleCity big = Check.city("row 1 1 1 1 1 1 1 1;row 1 1 1 1 1 1 1 1;");
         Check.same("5: the cells of the city count", Check.script(big, "sweep 15;"), 1);
         Check.same("5: past the cells of the city", Check.script(big, "sweep 16;"), -1);
     }
 
     private static void badNames() {
-        bad(NAME, "walk @eve 0;");
-        bad(NAME, "splash @eve;");
-        bad(NAME, "walk @an 0;");
-        bad(NAME, "walk @cob 0;");
-        bad(NAME, "walk @bab 0;");
-        bad(NAME, "walk @anna 0;");
-        bad(NAME, "walk @annann 0;");
-        bad(NAME, "walk @walk 0;");
-        bad(NAME, "splash @a;");
-        bad(NAME, "splash @anm;");
-        bad(SYNTAX, "splash @annannx;");
-        bad(SYNTAX, "splash @annannxx;");
-        bad(SYNTAX, "splash @annannxxx;");
-        bad(SYNTAX, "walk @annbobx 9;");
+        Texts.badScript(NAME, "walk @eve 0;");
+        Texts.badScript(NAME, "splash @eve;");
+        Texts.badScript(NAME, "walk @an 0;");
+        Texts.badScript(NAME, "walk @cob 0;");
+        Texts.badScript(NAME, "walk @bab 0;");
+        Texts.badScript(NAME, "walk @anna 0;");
+        Texts.badScript(NAME, "walk @annann 0;");
+        Texts.badScript(NAME, "walk @walk 0;");
+        Texts.badScript(NAME, "splash @a;");
+        Texts.badScript(NAME, "splash @anm;");
+        Texts.badScript(SYNTAX, "splash @annannx;");
+        Texts.badScript(SYNTAX, "splash @annannxx;");
+        Texts.badScript(SYNTAX, "splash @annannxxx;");
+        Texts.badScript(SYNTAX, "walk @annbobx 9;");
         PuddleCity city = Check.city("row 1 1;row 1 1;");
         Check.feed(city, "splash ann;");
         Check.same("5: no boots at all", city.runScript(), -1);
@@ -234,15 +200,15 @@ final class ScriptTest {
     }
 
     private static void tooMany() {
-        String thirty = repeated("rain 1;", 30);
-        good(thirty, 30);
-        bad(MANY, thirty + "@rain 1;");
-        bad(MANY, thirty + "  @walk eve 9;");
-        bad(MANY, thirty + "@pass");
-        bad(SYNTAX, thirty + "@;");
-        bad(SYNTAX, thirty + "@row 1 1;");
-        bad(SYNTAX, thirty + "@passpasspass");
-        bad(SYNTAX, thirty + "@1");
-        bad(RANGE, repeated("rain 1;", 29) + "rain @10;rain 1;");
+        String thirty = Texts.repeated("rain 1;", 30);
+        Texts.goodScript(thirty, 30);
+        Texts.badScript(MANY, thirty + "@rain 1;");
+        Texts.badScript(MANY, thirty + "  @walk eve 9;");
+        Texts.badScript(MANY, thirty + "@pass");
+        Texts.badScript(SYNTAX, thirty + "@;");
+        Texts.badScript(SYNTAX, thirty + "@row 1 1;");
+        Texts.badScript(SYNTAX, thirty + "@passpasspass");
+        Texts.badScript(SYNTAX, thirty + "@1");
+        Texts.badScript(RANGE, Texts.repeated("rain 1;", 29) + "rain @10;rain 1;");
     }
 }

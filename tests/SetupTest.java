@@ -20,48 +20,17 @@ final class SetupTest {
         Check.finish();
     }
 
-    private static void good(String setup, int cells) {
-        PuddleCity city = new PuddleCity();
-        Check.feed(city, setup);
-        Check.same("4: cells of " + setup, city.loadSetup(), cells);
-        Check.same("6: code of " + setup, city.errorCode(), PuddleCity.NO_ERROR);
-        Check.same("7: offset of " + setup, city.errorOffset(), PuddleCity.NONE);
-        Check.no("4: the buffer is emptied after " + setup, city.truncateInput(1));
-    }
-
-    /** The mark @ shows where the error is, and is no part of the text. */
-    private static void bad(int code, String marked) {
-        int offset = marked.indexOf('@');
-        String setup = marked.substring(0, offset) + marked.substring(offset + 1);
-        PuddleCity city = new PuddleCity();
-        String before = Check.picture(city);
-        Check.feed(city, setup);
-        Check.same("4: loadSetup of " + marked, city.loadSetup(), PuddleCity.NONE);
-        Check.same("6: code of " + marked, city.errorCode(), code);
-        Check.same("7: offset of " + marked, city.errorOffset(), offset);
-        Check.same("4: the city after " + marked, Check.picture(city), before);
-        Check.no("4: the buffer is emptied after " + marked, city.truncateInput(1));
-    }
-
-    private static String repeated(String part, int times) {
-        StringBuilder all = new StringBuilder();
-        for (int i = 0; i < times; i++) {
-            all.append(part);
-        }
-        return all.toString();
-    }
-
     private static void goodSetups() {
-        good("row 0 0;row 0 0;", 4);
-        good("row 0 1 2 3 4 5 6 7;row 7 6 5 4 3 2 1 9;", 16);
-        good(repeated("row 9 9;", 8), 16);
-        good(repeated("row 1 2 3 4 5 6 7 8;", 8), 64);
-        good("row0 0;row0 0;rain9;gutter3 9;boots a3 9;", 4);
-        good(" \n row\n0\n0 ; row 00 09 ;\n", 4);
-        good("rain 3;row 1 1;rain 4;row 1 1;", 4);
-        good("row 1 1;boots row 1 1;boots rain 0 9;row 1 1;boots abcdef 3 1;boots z 3 1;", 4);
-        good("row 1 1;row 1 1;gutter 03 09;", 4);
-        good(repeated(TWO, 4) + repeated("rain 0;", 76), 16);
+        Texts.goodSetup("row 0 0;row 0 0;", 4);
+        Texts.goodSetup("row 0 1 2 3 4 5 6 7;row 7 6 5 4 3 2 1 9;", 16);
+        Texts.goodSetup(Texts.repeated("row 9 9;", 8), 16);
+        Texts.goodSetup(Texts.repeated("row 1 2 3 4 5 6 7 8;", 8), 64);
+        Texts.goodSetup("row0 0;row0 0;rain9;gutter3 9;boots a3 9;", 4);
+        Texts.goodSetup(" \n row\n0\n0 ; row 00 09 ;\n", 4);
+        Texts.goodSetup("rain 3;row 1 1;rain 4;row 1 1;", 4);
+        Texts.goodSetup("row 1 1;boots row 1 1;boots rain 0 9;row 1 1;boots abcdef 3 1;boots z 3 1;", 4);
+        Texts.goodSetup("row 1 1;row 1 1;gutter 03 09;", 4);
+        Texts.goodSetup(Texts.repeated(TWO, 4) + Texts.repeated("rain 0;", 76), 16);
         PuddleCity city = Check.city("row 1 2 3;gutter 2 5;row 4 5 6;gutter 5 9;gutter 2 1;gutter 4 2;"
                 + "rain 5;rain 0;rain 8;boots zz 5 9;boots abcdef 0 1;boots q 2 3;boots qq 2 4;");
         Check.same("4: columns", city.columnCount(), 3);
@@ -121,134 +90,134 @@ final class SetupTest {
     }
 
     private static void badRows() {
-        bad(FEW, "@");
-        bad(FEW, "  \n@");
-        bad(FEW, "row 1 1;@");
-        bad(FEW, "row 1 1; rain 1;  @");
-        bad(FEW, "rain 1;@");
-        bad(SYNTAX, "row@");
-        bad(SYNTAX, "row  @");
-        bad(SYNTAX, "row @;");
-        bad(SYNTAX, "row 1@;");
-        bad(SYNTAX, "row 1 1@");
-        bad(SYNTAX, "row 1 1 \n@");
-        bad(SYNTAX, "row 1 1;row 1 1@");
-        bad(SYNTAX, "row 1 1 @row 1 1;");
-        bad(SYNTAX, "row @a 1;");
-        bad(SYNTAX, "row 1 2 3 4 5 6 7 8 @9;row 1 1;");
-        bad(SYNTAX, "row 1 2 3 4 5 6 7 8 @99;row 1 1;");
-        bad(SYNTAX, "row 1 1 1;row 1 1@;");
-        bad(SYNTAX, "row 1 1 1;row 1@;");
-        bad(SYNTAX, "row 1 1 1;row @;");
-        bad(SYNTAX, "row 1 1;row 1 1 @1;");
-        bad(SYNTAX, "row 1 1;row 1 1 @55;");
-        bad(SYNTAX, "row 1 1;row 1 1;row 1 1 @1;");
-        bad(RANGE, "row @10 1;row 1 1;");
-        bad(RANGE, "row 1 @10;");
-        bad(RANGE, "row 1 1;row 1 @99;");
-        bad(RANGE, "row 1 1;row @10 1 1;");
-        bad(RANGE, "row 1 2 3 4 5 6 7 @10;");
-        bad(SYNTAX, "row @100 1;");
-        bad(SYNTAX, "row @000 1;");
+        Texts.badSetup(FEW, "@");
+        Texts.badSetup(FEW, "  \n@");
+        Texts.badSetup(FEW, "row 1 1;@");
+        Texts.badSetup(FEW, "row 1 1; rain 1;  @");
+        Texts.badSetup(FEW, "rain 1;@");
+        Texts.badSetup(SYNTAX, "row@");
+        Texts.badSetup(SYNTAX, "row  @");
+        Texts.badSetup(SYNTAX, "row @;");
+        Texts.badSetup(SYNTAX, "row 1@;");
+        Texts.badSetup(SYNTAX, "row 1 1@");
+        Texts.badSetup(SYNTAX, "row 1 1 \n@");
+        Texts.badSetup(SYNTAX, "row 1 1;row 1 1@");
+        Texts.badSetup(SYNTAX, "row 1 1 @row 1 1;");
+        Texts.badSetup(SYNTAX, "row @a 1;");
+        Texts.badSetup(SYNTAX, "row 1 2 3 4 5 6 7 8 @9;row 1 1;");
+        Texts.badSetup(SYNTAX, "row 1 2 3 4 5 6 7 8 @99;row 1 1;");
+        Texts.badSetup(SYNTAX, "row 1 1 1;row 1 1@;");
+        Texts.badSetup(SYNTAX, "row 1 1 1;row 1@;");
+        Texts.badSetup(SYNTAX, "row 1 1 1;row @;");
+        Texts.badSetup(SYNTAX, "row 1 1;row 1 1 @1;");
+        Texts.badSetup(SYNTAX, "row 1 1;row 1 1 @55;");
+        Texts.badSetup(SYNTAX, "row 1 1;row 1 1;row 1 1 @1;");
+        Texts.badSetup(RANGE, "row @10 1;row 1 1;");
+        Texts.badSetup(RANGE, "row 1 @10;");
+        Texts.badSetup(RANGE, "row 1 1;row 1 @99;");
+        Texts.badSetup(RANGE, "row 1 1;row @10 1 1;");
+        Texts.badSetup(RANGE, "row 1 2 3 4 5 6 7 @10;");
+        Texts.badSetup(SYNTAX, "row @100 1;");
+        Texts.badSetup(SYNTAX, "row @000 1;");
     }
 
     private static void badStatements() {
-        bad(SYNTAX, "@;");
-        bad(SYNTAX, TWO + "@;");
-        bad(SYNTAX, "@1 1;");
-        bad(SYNTAX, "@rows 1 1;");
-        bad(SYNTAX, "@ro 1 1;");
-        bad(SYNTAX, "@bow 1 1;");
-        bad(SYNTAX, "@rot 1 1;");
-        bad(SYNTAX, TWO + "@pain 1;");
-        bad(SYNTAX, TWO + "@butter 1 1;");
-        bad(SYNTAX, TWO + "@roots a 1 1;");
-        bad(SYNTAX, TWO + "@shut 0;");
-        bad(SYNTAX, TWO + "@burst 0 1 1;");
-        bad(RANGE, "gutter @0 2;");
-        bad(RANGE, "row 1 1;gutter @2 1;row 1 1;");
-        bad(RANGE, TWO + "gutter @4 1;");
-        bad(RANGE, TWO + "gutter 3 @0;");
-        bad(RANGE, TWO + "gutter 3 @10;");
-        bad(SYNTAX, TWO + "gutter @;");
-        bad(SYNTAX, TWO + "gutter 3@;");
-        bad(SYNTAX, TWO + "gutter 3 1 @1;");
-        bad(SYNTAX, TWO + "gutter 3 1@");
-        bad(SYNTAX, TWO + "gutter @x 1;");
-        bad(SYNTAX, TWO + "gutter@");
-        bad(SYNTAX, TWO + "boots @1 1 1;");
-        bad(SYNTAX, TWO + "boots @;");
-        bad(SYNTAX, TWO + "boots a@;");
-        bad(SYNTAX, TWO + "boots a @b 1;");
-        bad(SYNTAX, TWO + "boots a 1@;");
-        bad(SYNTAX, TWO + "boots a 1 @b;");
-        bad(SYNTAX, TWO + "boots a 1 1@");
-        bad(SYNTAX, TWO + "boots a 1 1 @row 1 1;");
-        bad(RANGE, "boots a @0 1;");
-        bad(RANGE, "row 1 1;boots a @2 1;row 1 1;");
-        bad(RANGE, TWO + "boots a @4 1;");
-        bad(RANGE, TWO + "boots a 3 @0;");
-        bad(RANGE, TWO + "boots a 3 @10;");
-        bad(RANGE, "rain @10;");
-        bad(SYNTAX, "rain @;");
-        bad(SYNTAX, "rain 1 @2;");
-        bad(SYNTAX, "rain 1@");
-        bad(SYNTAX, "rain @100;");
-        bad(SYNTAX, "rain@");
-        bad(RANGE, "rain @10 ,;");
-        bad(SYNTAX, "rain 1@,10;");
+        Texts.badSetup(SYNTAX, "@;");
+        Texts.badSetup(SYNTAX, TWO + "@;");
+        Texts.badSetup(SYNTAX, "@1 1;");
+        Texts.badSetup(SYNTAX, "@rows 1 1;");
+        Texts.badSetup(SYNTAX, "@ro 1 1;");
+        Texts.badSetup(SYNTAX, "@bow 1 1;");
+        Texts.badSetup(SYNTAX, "@rot 1 1;");
+        Texts.badSetup(SYNTAX, TWO + "@pain 1;");
+        Texts.badSetup(SYNTAX, TWO + "@butter 1 1;");
+        Texts.badSetup(SYNTAX, TWO + "@roots a 1 1;");
+        Texts.badSetup(SYNTAX, TWO + "@shut 0;");
+        Texts.badSetup(SYNTAX, TWO + "@burst 0 1 1;");
+        Texts.badSetup(RANGE, "gutter @0 2;");
+        Texts.badSetup(RANGE, "row 1 1;gutter @2 1;row 1 1;");
+        Texts.badSetup(RANGE, TWO + "gutter @4 1;");
+        Texts.badSetup(RANGE, TWO + "gutter 3 @0;");
+        Texts.badSetup(RANGE, TWO + "gutter 3 @10;");
+        Texts.badSetup(SYNTAX, TWO + "gutter @;");
+        Texts.badSetup(SYNTAX, TWO + "gutter 3@;");
+        Texts.badSetup(SYNTAX, TWO + "gutter 3 1 @1;");
+        Texts.badSetup(SYNTAX, TWO + "gutter 3 1@");
+        Texts.badSetup(SYNTAX, TWO + "gutter @x 1;");
+        Texts.badSetup(SYNTAX, TWO + "gutter@");
+        Texts.badSetup(SYNTAX, TWO + "boots @1 1 1;");
+        Texts.badSetup(SYNTAX, TWO + "boots @;");
+        Texts.badSetup(SYNTAX, TWO + "boots a@;");
+        Texts.badSetup(SYNTAX, TWO + "boots a @b 1;");
+        Texts.badSetup(SYNTAX, TWO + "boots a 1@;");
+        Texts.badSetup(SYNTAX, TWO + "boots a 1 @b;");
+        Texts.badSetup(SYNTAX, TWO + "boots a 1 1@");
+        Texts.badSetup(SYNTAX, TWO + "boots a 1 1 @row 1 1;");
+        Texts.badSetup(RANGE, "boots a @0 1;");
+        Texts.badSetup(RANGE, "row 1 1;boots a @2 1;row 1 1;");
+        Texts.badSetup(RANGE, TWO + "boots a @4 1;");
+        Texts.badSetup(RANGE, TWO + "boots a 3 @0;");
+        Texts.badSetup(RANGE, TWO + "boots a 3 @10;");
+        Texts.badSetup(RANGE, "rain @10;");
+        Texts.badSetup(SYNTAX, "rain @;");
+        Texts.badSetup(SYNTAX, "rain 1 @2;");
+        Texts.badSetup(SYNTAX, "rain 1@");
+        Texts.badSetup(SYNTAX, "rain @100;");
+        Texts.badSetup(SYNTAX, "rain@");
+        Texts.badSetup(RANGE, "rain @10 ,;");
+        Texts.badSetup(SYNTAX, "rain 1@,10;");
     }
 
     private static void badTokens() {
-        bad(SYNTAX, "@Row 1 1;");
-        bad(SYNTAX, "@roW 1 1;");
-        bad(SYNTAX, "row@A 1 1;");
-        bad(SYNTAX, "row@\t1 1;");
-        bad(SYNTAX, "row 1 1;@\rrow 1 1;");
-        bad(SYNTAX, "row 1 1;@\u0000");
-        bad(SYNTAX, "row 1 1;@\u0080");
-        bad(SYNTAX, "row 1 1;@\u00e9");
-        bad(SYNTAX, "row 1 1;@`");
-        bad(SYNTAX, "row 1 1;@{");
-        bad(SYNTAX, "row 1 1;@/");
-        bad(SYNTAX, "row 1 1;@:");
-        bad(SYNTAX, "row @-1 1;");
-        bad(SYNTAX, "row 1@.5 1;");
-        bad(SYNTAX, "@rowrowrow 1 1;");
-        bad(SYNTAX, "@rowrowro 1 1;");
-        bad(SYNTAX, TWO + "@rainrainrain 1;");
-        bad(SYNTAX, "row 1 @111111111111111111111111111111 1;");
-        bad(SYNTAX, "row 1 @4294967297 1;row 1 1 1;");
-        bad(SYNTAX, "row 1 1;row1 1;@;");
-        bad(SYNTAX, "row 1 1;row 1 1@\u00a0;");
+        Texts.badSetup(SYNTAX, "@Row 1 1;");
+        Texts.badSetup(SYNTAX, "@roW 1 1;");
+        Texts.badSetup(SYNTAX, "row@A 1 1;");
+        Texts.badSetup(SYNTAX, "row@\t1 1;");
+        Texts.badSetup(SYNTAX, "row 1 1;@\rrow 1 1;");
+        Texts.badSetup(SYNTAX, "row 1 1;@\u0000");
+        Texts.badSetup(SYNTAX, "row 1 1;@\u0080");
+        Texts.badSetup(SYNTAX, "row 1 1;@\u00e9");
+        Texts.badSetup(SYNTAX, "row 1 1;@`");
+        Texts.badSetup(SYNTAX, "row 1 1;@{");
+        Texts.badSetup(SYNTAX, "row 1 1;@/");
+        Texts.badSetup(SYNTAX, "row 1 1;@:");
+        Texts.badSetup(SYNTAX, "row @-1 1;");
+        Texts.badSetup(SYNTAX, "row 1@.5 1;");
+        Texts.badSetup(SYNTAX, "@rowrowrow 1 1;");
+        Texts.badSetup(SYNTAX, "@rowrowro 1 1;");
+        Texts.badSetup(SYNTAX, TWO + "@rainrainrain 1;");
+        Texts.badSetup(SYNTAX, "row 1 @111111111111111111111111111111 1;");
+        Texts.badSetup(SYNTAX, "row 1 @4294967297 1;row 1 1 1;");
+        Texts.badSetup(SYNTAX, "row 1 1;row1 1;@;");
+        Texts.badSetup(SYNTAX, "row 1 1;row 1 1@\u00a0;");
     }
 
     private static void badNames() {
-        bad(NAME, TWO + "boots sue 0 1;boots @sue 1 1;");
-        bad(NAME, TWO + "boots a 0 1;boots b 1 1;boots @a 9 9;");
-        bad(NAME, TWO + "boots abcdef 0 1;boots @abcdef;");
-        good(TWO + "boots abcdef 0 1;boots abcde 1 1;boots abcdeg 1 1;boots bcdef 1 1;", 4);
-        bad(SYNTAX, TWO + "boots @abcdefg 0 1;");
-        bad(SYNTAX, TWO + "boots @abcdefgh 0 1;");
-        bad(SYNTAX, TWO + "boots @abcdefghi 0 1;");
-        bad(SYNTAX, TWO + "boots abcdef 0 1;boots @abcdefg 0 1;");
+        Texts.badSetup(NAME, TWO + "boots sue 0 1;boots @sue 1 1;");
+        Texts.badSetup(NAME, TWO + "boots a 0 1;boots b 1 1;boots @a 9 9;");
+        Texts.badSetup(NAME, TWO + "boots abcdef 0 1;boots @abcdef;");
+        Texts.goodSetup(TWO + "boots abcdef 0 1;boots abcde 1 1;boots abcdeg 1 1;boots bcdef 1 1;", 4);
+        Texts.badSetup(SYNTAX, TWO + "boots @abcdefg 0 1;");
+        Texts.badSetup(SYNTAX, TWO + "boots @abcdefgh 0 1;");
+        Texts.badSetup(SYNTAX, TWO + "boots @abcdefghi 0 1;");
+        Texts.badSetup(SYNTAX, TWO + "boots abcdef 0 1;boots @abcdefg 0 1;");
         // the first city's names are free again in a setup
-        good(TWO + "boots bob 0 1;boots ann 0 1;", 4);
+        Texts.goodSetup(TWO + "boots bob 0 1;boots ann 0 1;", 4);
     }
 
     private static void tooMany() {
         String four = TWO + "boots a 0 1;boots b 0 1;boots c 0 1;boots d 0 1;";
-        good(four, 4);
-        bad(MANY, four + "@boots e 0 1;");
-        bad(MANY, four + "@boots a 99 99;");
-        bad(MANY, four + "@boots");
-        bad(SYNTAX, four + "@bootss e 0 1;");
-        String eight = repeated("row 1 1;", 8);
-        good(eight, 16);
-        bad(MANY, eight + "@row 1 1;");
-        bad(MANY, eight + " @row");
-        bad(SYNTAX, eight + "@rows 1 1;");
-        good(eight + "gutter 15 1;rain 1;", 16);
+        Texts.goodSetup(four, 4);
+        Texts.badSetup(MANY, four + "@boots e 0 1;");
+        Texts.badSetup(MANY, four + "@boots a 99 99;");
+        Texts.badSetup(MANY, four + "@boots");
+        Texts.badSetup(SYNTAX, four + "@bootss e 0 1;");
+        String eight = Texts.repeated("row 1 1;", 8);
+        Texts.goodSetup(eight, 16);
+        Texts.badSetup(MANY, eight + "@row 1 1;");
+        Texts.badSetup(MANY, eight + " @row");
+        Texts.badSetup(SYNTAX, eight + "@rows 1 1;");
+        Texts.goodSetup(eight + "gutter 15 1;rain 1;", 16);
     }
 
     private static void badSetupLeavesAll() {
