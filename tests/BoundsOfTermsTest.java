@@ -117,7 +117,7 @@ final class BoundsOfTermsTest {
     }
 
     private static void neighboursInTheCorners() {
-        Check.sentence("Cells", "Its neighbours are the cells to the NORTH, EAST, SOUTH and WEST, as far as they exist");
+        Check.sentence("Cells", "and WEST (the column before), as far as they exist");
         PuddleCity city = Check.city("row 1 1 1;row 1 1 1;row 1 1 1;");
         int[][] due = {
             {NONE, 1, 3, NONE}, {NONE, 2, 4, 0}, {NONE, NONE, 5, 1},
@@ -298,7 +298,8 @@ final class BoundsOfTermsTest {
     }
 
     private static void aLeafGoesWithTheWater() {
-        Check.sentence("Flow", "If at least 1 unit flows from a cell that has leaves and no gutter, one leaf goes with it");
+        Check.sentence("Flow",
+                "If at least 1 unit flows from a cell that has leaves and no gutter, one leaf goes with it");
         String pair = "row 0 0;row 9 9;";
         Check.same("no unit", Check.leaves(withLeaves(pair, 2, 1)), "2 0 0 0");
         Check.same("one unit", Check.leaves(withLeaves(pair, 2, 2)), "1 1 0 0");
@@ -322,7 +323,8 @@ final class BoundsOfTermsTest {
         Texts.badSetup(RANGE, TWO + "gutter 0 @0;");
         Texts.badSetup(RANGE, TWO + "gutter 0 @10;");
 
-        Check.sentence("Gutters", "Its flow is the capacity minus the number of leaves on the cell, but not less than 0");
+        Check.sentence("Gutters",
+                "Its flow is the capacity minus the number of leaves on the cell, but not less than 0");
         Check.same("without leaves", city.gutterFlow(3), 9);
         city.dropLeaves(3, 8);
         Check.same("a leaf fewer than the capacity", city.gutterFlow(3), 1);
@@ -397,7 +399,8 @@ final class BoundsOfTermsTest {
     }
 
     private static void orderOfCells() {
-        Check.sentence("Passing of a minute", "water flows from each cell to its lowest neighbour, as things are when the cell is treated");
+        Check.sentence("Passing of a minute",
+                "water flows from each cell to its lowest neighbour, as things are when the cell is treated");
         PuddleCity down = Check.city("row 9 8 7;row 9 9 6;");
         down.burst(0, 1, 1);
         down.passMinutes(1);
@@ -409,7 +412,8 @@ final class BoundsOfTermsTest {
     }
 
     private static void guttersDrain() {
-        Check.sentence("Passing of a minute", "Each gutter drains as many units from its cell as its flow, but not more than the water there");
+        Check.sentence("Passing of a minute",
+                "drains as many units from its cell as its flow, but not more than the water there");
         int[][] due = {{2, 2}, {3, 3}, {4, 3}};
         for (int[] one : due) {
             PuddleCity city = Check.city("row 0 9;row 9 9;gutter 0 3;");
@@ -426,7 +430,8 @@ final class BoundsOfTermsTest {
     }
 
     private static void evaporation() {
-        Check.sentence("Passing of a minute", "If the minute is divisible by 10, one unit evaporates from each cell that is not dry");
+        Check.sentence("Passing of a minute",
+                "If the minute is divisible by 10, one unit evaporates from each cell that is not dry");
         PuddleCity city = Check.city("row 0 9;row 9 0;rain 0;");
         city.burst(0, 1, 1);
         city.burst(3, 3, 1);
@@ -450,7 +455,8 @@ final class BoundsOfTermsTest {
     }
 
     private static void wetInside() {
-        Check.sentence("Passing of a minute", "Boots become wet inside if the water on their cell is higher than the boots");
+        Check.sentence("Passing of a minute",
+                "Boots become wet inside if the water on their cell is higher than the boots");
         PuddleCity city = Check.city(FLAT + "rain 1;boots a 0 1;boots b 1 2;boots c 2 8;boots d 3 9;");
         boolean[][] due = new boolean[12][];
         due[1] = new boolean[] {false, false, false, false};
@@ -498,7 +504,7 @@ final class BoundsOfTermsTest {
     private static void boots() {
         pairsOfBoots();
         names();
-        Check.sentence("Boots", "and a height of 1 to 9");
+        Check.sentence("Boots", "a height of 1 to 9");
         PuddleCity city = Check.city(TWO + "boots a 0 1;boots b 3 9;");
         Check.same("the least height", city.bootHeight(0), 1);
         Check.same("the greatest height", city.bootHeight(1), 9);
@@ -549,7 +555,9 @@ final class BoundsOfTermsTest {
     }
 
     private static void wetByWalking() {
-        Check.sentence("Boots", "When boots walk, they become wet inside if the water on the new cell is higher than the boots");
+        Check.sentence("Boots",
+                "When boots walk, they become wet inside if the water on the new cell is higher than the "
+                + "boots");
         PuddleCity city = Check.city("row 9 0 9;row 9 9 9;boots a 0 1;boots b 0 2;boots c 0 3;");
         city.burst(1, 2, 1);
         city.passMinutes(1);
@@ -570,7 +578,9 @@ final class BoundsOfTermsTest {
     }
 
     private static void aFifthIsThrown() {
-        Check.sentence("Boots", "When boots splash, a fifth of the water on their cell, rounded down, is thrown to each neighbour of the cell");
+        Check.sentence("Boots",
+                "When boots splash, a fifth of the water on their cell, rounded down, is thrown to each "
+                + "neighbour of the cell");
         for (int units : new int[] {1, 4, 5, 9, 10}) {
             splashed("row 9 9 9;row 9 0 9;row 9 9 9;", 4, 4, units);
             splashed("row 9 0 9;row 9 9 9;row 9 9 9;", 1, 3, units);

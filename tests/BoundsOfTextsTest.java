@@ -11,6 +11,7 @@ final class BoundsOfTextsTest {
     private static final int BLANKS = 0x20202020;
 
     public static void main(String[] args) {
+        newObject();
         inputBuffer();
         setupText();
         scriptText();
@@ -24,6 +25,17 @@ final class BoundsOfTextsTest {
 
     private static int appendBlanks(PuddleCity city) {
         return city.appendInput(BLANKS, BLANKS, BLANKS, BLANKS, BLANKS);
+    }
+
+    private static void newObject() {
+        Check.sentence("Promise 1", "with an empty input buffer");
+        PuddleCity city = new PuddleCity();
+        Check.no("not one byte", city.truncateInput(1));
+        Check.yes("none", city.truncateInput(0));
+        Check.same("an empty script", city.runScript(), 0);
+        Check.same("an empty setup", city.loadSetup(), NONE);
+        Check.same("ends at once", city.errorOffset(), 0);
+        Check.same("20 bytes are the first ones", new PuddleCity().appendInput(-1, -1, -1, -1, -1), 20);
     }
 
     private static void inputBuffer() {
@@ -79,7 +91,8 @@ final class BoundsOfTextsTest {
     }
 
     private static void truncating() {
-        Check.sentence("Promise 3", "or false without a change if length is negative or greater than the current length");
+        Check.sentence("Promise 3",
+                "or false without a change if length is negative or greater than the current length");
         PuddleCity city = new PuddleCity();
         Check.no("1 of an empty buffer", city.truncateInput(1));
         Check.yes("0 of an empty buffer", city.truncateInput(0));
@@ -170,6 +183,15 @@ final class BoundsOfTextsTest {
         Texts.goodSetup("row 1 1 1;row 1 1 1;gutter 5 1;gutter 0 1;boots a 5 1;boots b 0 1;", 6);
         Texts.badSetup(RANGE, "row 1 1 1;row 1 1 1;gutter @6 1;");
         Texts.badSetup(RANGE, "row 1 1 1;row 1 1 1;boots a @6 1;");
+        PuddleCity large = Check.city(TWO);
+        for (int i = 0; i < 3; i++) {
+            Check.feed(large, "gutter 0 1;" + TWO);
+            Check.same("a cell of the setup before", large.loadSetup(), NONE);
+            Check.feed(large, "row 1 1;boots a 2 1;row 1 1;");
+            Check.same("another cell of the setup before", large.loadSetup(), NONE);
+            Check.feed(large, TWO + TWO);
+            Check.same("a larger setup", large.loadSetup(), 8);
+        }
         String most = Texts.repeated("row 1 1 1 1 1 1 1 1;", 8);
         Texts.goodSetup(most + "gutter 63 1;boots a 63 1;", 64);
         Texts.badSetup(RANGE, most + "gutter @64 1;");
@@ -291,7 +313,8 @@ final class BoundsOfTextsTest {
     }
 
     private static void blanks() {
-        Check.sentence("Tokens", "Spaces (byte 32) and line feeds (byte 10) may stand before, between and after tokens");
+        Check.sentence("Tokens",
+                "Spaces (byte 32) and line feeds (byte 10) may stand before, between and after tokens");
         Texts.goodSetup("\n row \n 1 \n1 \n; \nrow 1 1;\n \n", 4);
         Texts.goodScript(" \n walk \n bob\n0 \n;\n \n", 1);
         Check.sentence("Text errors", "or is a byte that starts no token");
@@ -354,7 +377,8 @@ final class BoundsOfTextsTest {
     }
 
     private static void smallestCode() {
-        Check.sentence("Text errors", "If several errors apply to one token, the error with the smallest code is reported");
+        Check.sentence("Text errors",
+                "If several errors apply to one token, the error with the smallest code is reported");
         Texts.badSetup(SYNTAX, "row 1 1 1 1 1 1 1 1 @10;");
         Texts.badSetup(SYNTAX, "row 1 1;row 1 1 @10;");
         Texts.badSetup(SYNTAX, "row @100 1;");
@@ -375,6 +399,9 @@ final class BoundsOfTextsTest {
     private static void syntaxErrors() {
         Check.sentence("Text errors", "SYNTAX: the token cannot stand at this place, is too long");
         Texts.badSetup(SYNTAX, "@1 1;");
+        Texts.badSetup(SYNTAX, "@now 1 1;");
+        Texts.badSetup(SYNTAX, "@roq 1 1;");
+        Texts.badSetup(SYNTAX, "@ro 1 1;");
         Texts.badSetup(SYNTAX, "row @row 1 1;");
         Texts.badSetup(SYNTAX, TWO + "gutter @a 1;");
         Texts.badSetup(SYNTAX, TWO + "gutter 0 @a;");
@@ -386,6 +413,8 @@ final class BoundsOfTextsTest {
         Texts.badSetup(SYNTAX, TWO + "rain @;");
         Texts.badSetup(SYNTAX, TWO + "rain 1 @1;");
         Texts.badSetup(SYNTAX, TWO + "@pass 1;");
+        Texts.badScript(SYNTAX, "@mass 1;");
+        Texts.badScript(SYNTAX, "@pas 1;");
         Texts.badScript(SYNTAX, "@row 1 1;");
         Texts.badScript(SYNTAX, "burst 0 1@;");
         Texts.badScript(SYNTAX, "walk ann@;");
@@ -403,7 +432,9 @@ final class BoundsOfTextsTest {
                 "sweep", "walk", "walk ann", "splash", "pass"}) {
             Texts.badScript(SYNTAX, start + "@");
         }
-        Check.sentence("Text errors", "a name of more than 6 letters, a height too many in a row, and a semicolon behind too few heights are syntax errors, too");
+        Check.sentence("Text errors",
+                "a name of more than 6 letters, a height too many in a row, and a semicolon behind too few "
+                + "heights are syntax errors, too");
         Texts.goodSetup(TWO + "boots abcdef 0 1;", 4);
         Texts.badSetup(SYNTAX, TWO + "boots @abcdefg 0 1;");
         Texts.badSetup(SYNTAX, TWO + "boots @abcdefgh 0 1;");
@@ -449,13 +480,13 @@ final class BoundsOfTextsTest {
         Texts.badSetup(MANY, eight + " @row");
         Texts.badSetup(MANY, eight + "rain 1;@row 10;");
         Texts.goodSetup(eight + "rain 1;gutter 15 1;boots a 15 1;", 16);
-        Check.sentence("Text errors", "TOO_MANY: or of a fifth pair of boots of a setup");
+        Check.sentence("Text errors", "or of a fifth pair of boots of a setup");
         Texts.goodSetup(FOUR_PAIRS, 4);
         Texts.badSetup(MANY, FOUR_PAIRS + "@boots e 0 1;");
         Texts.badSetup(MANY, FOUR_PAIRS + " \n@boots");
         Texts.badSetup(MANY, FOUR_PAIRS + "rain 1;@boots a 99 0;");
         Texts.goodSetup(FOUR_PAIRS + "row 1 1;rain 1;", 6);
-        Check.sentence("Text errors", "TOO_MANY: or of the 31st statement of a script");
+        Check.sentence("Text errors", "or of the 31st statement of a script");
         String thirty = Texts.repeated("rain 1;", 30);
         Texts.goodScript(thirty, 30);
         Texts.badScript(MANY, thirty + "@rain 1;");
@@ -489,7 +520,29 @@ final class BoundsOfTextsTest {
         Check.same("an empty one", city.loadSetup(), NONE);
         Check.same("20 bytes of an empty buffer", appendBlanks(city), 20);
 
-        Check.sentence("Promise 4", "the minute is 0, all cells are dry and without leaves, no hydrant is open, all sums are 0, no change can be undone, and no state is saved");
+        Check.sentence("Promise 4", "A valid setup replaces everything except the output");
+        PuddleCity again = Check.city(TWO + "gutter 0 9;gutter 3 9;boots a 0 1;boots b 0 1;rain 9;");
+        for (int i = 0; i < 3; i++) {
+            again.passMinutes(30);
+            again.splash(0);
+            again.writeRow(0);
+            Check.feed(again, "row 2 2 2;row 2 2 2;gutter 5 1;boots c 5 9;rain " + (i + 2) + ";");
+            Check.same("cells", again.loadSetup(), 6);
+            Check.same("time " + i, Check.picture(again), Check.picture(
+                    Check.city("row 2 2 2;row 2 2 2;gutter 5 1;boots c 5 9;rain " + (i + 2) + ";")));
+            Check.same("the name", Check.name(again, 0), "c");
+            Check.same("no splashes", again.splashesOf(0), 0);
+            Check.same("the output", again.outputByte(0), '+');
+        }
+        Check.feed(again, "row 2 2 2;row 2 2 2;");
+        Check.same("cells", again.loadSetup(), 6);
+        Check.same("no gutter is left", again.gutterCapacity(5) + again.gutterCapacity(0), 0);
+        Check.same("no boots are left", again.bootsCount(), 0);
+        Check.same("no rain is left", again.rain(), 0);
+
+        Check.sentence("Promise 4",
+                "the minute is 0, all cells are dry and without leaves, no hydrant is open, all sums are "
+                + "0, no change can be undone, and no state is saved");
         PuddleCity used = used();
         Check.feed(used, "row 0 1;row 2 3;gutter 3 1;boots ann 3 1;");
         Check.same("cells", used.loadSetup(), 4);
@@ -564,32 +617,41 @@ final class BoundsOfTextsTest {
     }
 
     private static void codeAndOffset() {
-        Check.sentence("Promises 6 and 7", "NO_ERROR if that text was valid or there was no such call; NONE if errorCode() is NO_ERROR");
         PuddleCity city = new PuddleCity();
+        Check.sentence("Promise 6", "or NO_ERROR if that text was valid or there was no such call");
         Check.same("no such call", city.errorCode(), PuddleCity.NO_ERROR);
-        Check.same("no offset", city.errorOffset(), NONE);
         appendBlanks(city);
-        Check.same("still none", city.errorCode(), PuddleCity.NO_ERROR);
+        city.truncateInput(0);
+        Check.same("a buffer that was not read", city.errorCode(), PuddleCity.NO_ERROR);
         Check.script(city, "x");
         Check.same("an error", city.errorCode(), SYNTAX);
-        Check.same("at the start", city.errorOffset(), 0);
-        Check.feed(city, "y");
         Check.noState("a refused call", () -> city.shut(0));
-        city.passMinutes(1);
         Check.same("no text has been read since", city.errorCode(), SYNTAX);
-        Check.same("its offset stays", city.errorOffset(), 0);
         Check.script(city, "");
         Check.same("an empty script is valid", city.errorCode(), PuddleCity.NO_ERROR);
-        Check.same("and has no offset", city.errorOffset(), NONE);
         city.loadSetup();
         Check.same("an empty setup is not", city.errorCode(), FEW);
-        Check.same("and has one", city.errorOffset(), 0);
         Check.script(city, "shut 0;");
         Check.same("a script that ends at once is valid", city.errorCode(), PuddleCity.NO_ERROR);
         Check.script(city, "rain 10;");
         Check.feed(city, TWO);
         city.loadSetup();
         Check.same("a valid setup behind an error", city.errorCode(), PuddleCity.NO_ERROR);
-        Check.same("has no offset", city.errorOffset(), NONE);
+
+        Check.sentence("Promise 7", "or NONE if errorCode() is NO_ERROR");
+        PuddleCity other = new PuddleCity();
+        Check.same("no such call", other.errorOffset(), NONE);
+        Check.script(other, "x");
+        Check.same("an error at the start", other.errorOffset(), 0);
+        other.passMinutes(1);
+        appendBlanks(other);
+        Check.same("no text has been read since", other.errorOffset(), 0);
+        Check.same("a valid script", Check.script(other, ""), 0);
+        Check.same("has none", other.errorOffset(), NONE);
+        other.loadSetup();
+        Check.same("the end of an empty setup", other.errorOffset(), 0);
+        Check.feed(other, TWO);
+        other.loadSetup();
+        Check.same("a valid setup has none", other.errorOffset(), NONE);
     }
 }

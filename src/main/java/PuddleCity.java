@@ -863,7 +863,9 @@ public final class PuddleCity {
             System.arraycopy(other.hydrantTimes, 0, hydrantTimes, 0, MAX_CELLS);
             System.arraycopy(other.places, 0, places, 0, MAX_BOOTS);
             System.arraycopy(other.splashes, 0, splashes, 0, MAX_BOOTS);
-            System.arraycopy(other.wet, 0, wet, 0, MAX_BOOTS);
+            for (int boots = 0; boots < MAX_BOOTS; boots++) {
+                wet[boots] = other.wet[boots];
+            }
             minute = other.minute;
             rain = other.rain;
             rained = other.rained;
