@@ -54,6 +54,17 @@ final class BoundsOfChangesTest {
         undone("splash", city -> city.splash(0));
         undone("passMinutes", city -> city.passMinutes(60));
         undone("runScript", city -> Check.script(city, "walk b 0;sweep 3;shut 1;"));
+        // both pairs stand dry beside a pit of 6 and walk into it
+        PuddleCity wet = Check.city(PIT + "boots a 1 5;boots b 2 5;");
+        wet.burst(0, 6, 1);
+        wet.passMinutes(1);
+        wet.walk(0, PuddleCity.WEST);
+        wet.walk(1, PuddleCity.NORTH);
+        Check.yes("both are wet", wet.isWet(0) && wet.isWet(1));
+        wet.undo();
+        Check.yes("one walk undone", wet.isWet(0) && !wet.isWet(1));
+        wet.undo();
+        Check.no("both walks undone", wet.isWet(0) || wet.isWet(1));
     }
 
     private static void changesThatChangeNothing() {

@@ -224,6 +224,11 @@ final class BoundsOfQuestionsTest {
         noPuddle(one, 1);
         Check.sentence("Promise 24", "Returns the number of puddles");
         PuddleCity most = Check.city(Texts.repeated("row 0 9 0 9 0 9 0 9;row 9 0 9 0 9 0 9 0;", 4) + "rain 1;");
+        Check.noIndex("none before the rain", () -> most.puddleSize(31));
+        most.passMinutes(1);
+        Check.same("the last one as soon as it rains", most.puddleSize(31), 1);
+        most.undo();
+        Check.noIndex("none when the rain is undone", () -> most.puddleWater(0));
         most.passMinutes(1);
         noPuddle(most, 32);
 
